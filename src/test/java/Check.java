@@ -120,11 +120,12 @@ final class Check {
         }
     }
 
-    /** Fills a store with leaves of two bytes, the first of them a given one, up to so many blocks. */
-    void fill(BlockExchange x, int store, int first, int blocks) {
-        for (int i = 0; i < 256 && x.blocks(store) < blocks; i++) {
-            put(x, store, leaf(first, i));
+    /** Puts so many leaves of two bytes, the first of them a given one, in four calls each. */
+    void fill(BlockExchange x, int store, int first, int leaves) {
+        for (int i = 0; i < leaves; i++) {
+            int[] row = leaf(first, i);
+            type(x, row);
+            due("put(" + store + ")", x.put(store), nameOf(row));
         }
-        due("blocks(" + store + ")", x.blocks(store), blocks);
     }
 }

@@ -117,7 +117,8 @@ public final class PutTest {
         check.due("raw after a collision", x.raw(0, name, 1), 0);
         check.due("put in another store", x.put(2), name);
         check.due("raw there", x.raw(2, name, 1), 249);
-        check.fill(x, 0, 9, 64);
+        x.clear();
+        check.fill(x, 0, 9, 63);
         check.due("put without room", check.tryPut(x, 0, 0, 8), -3);
         check.due("put of a block that is there, without room", check.tryPut(x, 0, 0, 0, 0, 7), name);
         check.due("collision without room", check.tryPut(x, 0, 0, 249, 34, 7), -2);
