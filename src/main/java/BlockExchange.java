@@ -973,14 +973,10 @@ public final class BlockExchange {
             if (block == null) {
                 noteMissing(name);
             } else if (mark(slot)) {
-                pushLinks(block);
-            }
-        }
-
-        /** The last link goes in first, so that the first one is visited next. */
-        private void pushLinks(Row block) {
-            for (int i = Form.linkCount(block) - 1; i >= 0; i--) {
-                push(Form.linkAt(block, i));
+                // The last link goes in first, so that the first one is visited next.
+                for (int i = Form.linkCount(block) - 1; i >= 0; i--) {
+                    push(Form.linkAt(block, i));
+                }
             }
         }
 

@@ -98,11 +98,11 @@ public final class AddTest {
         check.hasBlock(x, 2, fresh);
         // A cut behind the very last byte begins no piece.
         check.type(x, 1, 3, 1);
-        check.due("add, no cut within", x.add(2, 0, 2), Check.nameOf(0, 1, 3, 1));
-        check.type(x, 1, 1, 2);
-        check.due("add, a cut at the end", x.add(2, 0, 2), Check.nameOf(0, 1, 1, 2));
+        check.due("add, a cut at the end", x.add(2, 0, 2), Check.nameOf(0, 1, 3, 1));
         check.type(x, 255, 255);
         check.due("add of two great bytes", x.add(2, 0, 2), Check.nameOf(0, 255, 255));
+        check.type(x, 1, 1, 1, 1, 1, 1, 1, 1);
+        check.due("add of eight bytes", x.add(2, 0, 2), Check.nameOf(0, 1, 1, 1, 1, 1, 1, 1, 1));
     }
 
     private static void sameBlocks() {
