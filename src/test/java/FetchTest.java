@@ -17,6 +17,7 @@ public final class FetchTest {
         fullStore();
         doneByOtherCalls();
         manyMissing();
+        ring();
         check.end();
     }
 
@@ -325,6 +326,23 @@ public final class FetchTest {
         check.due("done by put", x.state(0), 2);
         check.due("collect", x.collect(0), 3);
         check.due("a done one stays so", x.state(0), 2);
+    }
+
+    /** Behind a block's link to itself the walk goes on with the next link. */
+    private static void ring() {
+        for (int code = 0; code < 254 * 65521; code++) {
+            int link = code % 65521;
+            int[] row = Check.folder(1 + code / 65521, link, 255, 12345);
+            if (Check.nameOf(row) == link) {
+                BlockExchange x = new BlockExchange();
+                check.put(x, 0, row);
+                check.due("fetch", x.fetch(0, 1, link), 1);
+                wants(x, 0, 1, 12345);
+                check.due("state", x.state(0), 1);
+                return;
+            }
+        }
+        check.due("a folder that links itself was found", 0, 1);
     }
 
     private static void manyMissing() {

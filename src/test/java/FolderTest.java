@@ -11,6 +11,7 @@ public final class FolderTest {
         finding();
         findingBroken();
         findingDeep();
+        nameZero();
         check.end();
     }
 
@@ -180,9 +181,27 @@ public final class FolderTest {
         check.due("find behind a tree", x.find(0, shard, titleOf(2)), -2);
         check.due("find behind a folder", x.find(0, shard, titleOf(3)), 77);
         check.due("find behind a folder, not there", x.find(0, shard, titleOf(7)), -1);
+        int zero = check.put(x, 0, Check.shard(1, 0));
+        check.due("find behind the name 0", x.find(0, zero, titleOf(4)), -2);
         int narrow = check.put(x, 0, Check.shard(8, folder));
         check.due("find, bit 0", x.find(0, narrow, titleOf(4)), -1);
         check.due("find, bit 3", x.find(0, narrow, titleOf(3)), 77);
+    }
+
+    private static void nameZero() {
+        for (int code = 0; code < 255 * 65521; code++) {
+            int title = 1 + code / 65521;
+            int link = code % 65521;
+            if (Check.nameOf(Check.folder(title, link)) == 0) {
+                BlockExchange x = new BlockExchange();
+                check.due("entry", x.entry(title, link), true);
+                check.due("folder", x.folder(0), 0);
+                check.due("the list is empty", x.folder(0), Check.nameOf(2, 0));
+                check.due("find", x.find(0, 0, title), link);
+                return;
+            }
+        }
+        check.due("a folder of name 0 was found", 0, 1);
     }
 
     private static void findingDeep() {

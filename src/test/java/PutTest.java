@@ -10,6 +10,8 @@ public final class PutTest {
         noBlocks();
         comingIn();
         bytesAndRaw();
+        nameZero();
+        collisionOfOtherLength();
         check.end();
     }
 
@@ -130,6 +132,45 @@ public final class PutTest {
         check.due("blocks of the others", x.blocks(1), 0);
         check.due("blocks(-1)", x.blocks(-1), -1);
         check.due("blocks(3)", x.blocks(3), -1);
+    }
+
+    /** 0 is a name like any other: what comes in under it is no refusal. */
+    private static void nameZero() {
+        for (int code = 0; code < 1 << 24; code++) {
+            int[] row = Check.leaf(code & 255, code >> 8 & 255, code >> 16);
+            if (Check.nameOf(row) == 0) {
+                BlockExchange x = new BlockExchange();
+                check.put(x, 0, row);
+                check.due("the buffer is empty after put", x.name(), 40503);
+                check.type(x, row[1], row[2], row[3]);
+                check.due("add", x.add(1, 3, 2), 0);
+                check.due("the buffer is empty after add", x.name(), 40503);
+                check.hasBlock(x, 1, row);
+                check.due("fetch", x.fetch(2, 0, 0), 1);
+                x.deliver(0);
+                check.due("name", x.message(0, 3), 0);
+                x.deliver(0);
+                check.due("state", x.state(2), 2);
+                return;
+            }
+        }
+        check.due("a leaf of name 0 was found", 0, 1);
+    }
+
+    private static void collisionOfOtherLength() {
+        int name = Check.nameOf(0, 0);
+        for (int code = 0; code < 1 << 16; code++) {
+            int[] row = Check.leaf(0, code & 255, code >> 8);
+            if (Check.nameOf(row) == name) {
+                BlockExchange x = new BlockExchange();
+                check.put(x, 0, 0, 0);
+                check.due("a longer one of that name", check.tryPut(x, 0, row), -2);
+                check.put(x, 1, row);
+                check.due("a shorter one of that name", check.tryPut(x, 1, 0, 0), -2);
+                return;
+            }
+        }
+        check.due("a collision was found", 0, 1);
     }
 
     private static void bytesAndRaw() {
