@@ -1,6 +1,7 @@
 /** Compares answers with what is due, and helps the tests to bring bytes into an object. */
 final class Check {
     private final String test;
+    private String sentence = "";
     private int wrong = 0;
     private int made = 0;
 
@@ -8,16 +9,25 @@ final class Check {
         this.test = test;
     }
 
+    /** The sentence of the document that the next answers are about. */
+    void about(String words) {
+        sentence = " [" + words + "]";
+    }
+
     void due(String call, long got, long want) {
-        made++;
-        if (got != want) {
-            wrong++;
-            System.out.println(test + ": " + call + " answered " + got + ", due is " + want);
-        }
+        same(call, got, want);
     }
 
     void due(String call, boolean got, boolean want) {
-        due(call, got ? 1 : 0, want ? 1 : 0);
+        same(call, got ? 1 : 0, want ? 1 : 0);
+    }
+
+    void same(String call, Object got, Object want) {
+        made++;
+        if (!got.equals(want)) {
+            wrong++;
+            System.out.println(test + ": " + call + " answered " + got + ", due is " + want + sentence);
+        }
     }
 
     void end() {
@@ -118,6 +128,31 @@ final class Check {
         for (int i = 0; i < bytes.length; i++) {
             due("raw(" + store + ", " + name + ", " + i + ")", x.raw(store, name, i), bytes[i]);
         }
+    }
+
+    /**
+     * Brings a store that is empty to a number of blocks, 50 or more: a file of bytes 100 to 131 with 50 blocks,
+     * then leaves of one byte, 0, 1, and so on. It takes 34 calls and 3 for each such leaf; the buffer is empty then.
+     */
+    void fillTo(BlockExchange x, int store, int blocks) {
+        for (int b = 100; b < 132; b++) {
+            due("type", x.type(b), true);
+        }
+        x.add(store, 1, 3);
+        for (int b = 0; b < blocks - 50; b++) {
+            type(x, 0, b);
+            due("put", x.put(store), nameOf(0, b));
+        }
+        due("blocks of a store that was filled", x.blocks(store), blocks);
+    }
+
+    /** Another row with the same name, for a row whose bytes i and i + 1 are at most 6 and 221. */
+    static int[] twin(int[] row, int i) {
+        int[] other = row.clone();
+        // 263 times 249, and 34, are 65521.
+        other[i] += 249;
+        other[i + 1] += 34;
+        return other;
     }
 
     /** Puts so many leaves of two bytes, the first of them a given one, in four calls each. */
