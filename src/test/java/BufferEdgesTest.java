@@ -85,7 +85,7 @@ public final class BufferEdgesTest {
         calls.put("fetch", x -> x.fetch(2, 0, Still.TREE));
         calls.put("retry", x -> x.retry(1));
         calls.put("deliver", x -> x.deliver(1));
-        calls.put("harm", x -> x.harm(1, 17, 3));
+        calls.put("harm", x -> x.harm(1, 9, 3));
         calls.put("message", x -> x.message(1, 3));
         calls.put("waiting", x -> x.waiting());
         calls.put("state", x -> x.state(0));

@@ -1,3 +1,5 @@
+import java.util.function.Consumer;
+
 /** The edges of fetches: promises 17 (fetch), 18 (retry), 19 (deliver) and 23 (state), and the order of the walk. */
 public final class FetchEdgesTest {
     private static final Check check = new Check("FetchEdgesTest");
@@ -46,6 +48,9 @@ public final class FetchEdgesTest {
         giveWithAndWithoutRoom();
         giveAsksForNewNamesAlone();
         giveAsksInTheOrderOfTheWalk();
+        otherNonesChangeNothing();
+        otherGivesChangeNothing();
+        wantsAloneChangeNoStore();
         check.end();
     }
 
@@ -822,5 +827,87 @@ public final class FetchEdgesTest {
         line(x, 0, 1, 85, 84, 83, 82, 81);
         check.due("retry", x.retry(0), 5);
         line(x, 0, 1, 85, 84, 83, 82, 81, 85, 84, 83, 82, 81);
+    }
+
+    /** A message that changes nothing is as good as lost. */
+    private static void deliveredIsLost(String what, int kind, Consumer<BlockExchange> way) {
+        Still still = new Still(check, way, A, B, C, Check.nameOf(4, 1), Check.nameOf(Check.tree(1, A, 1, B)));
+        still.alike(what, x -> check.due(what, x.deliver(0), kind), x -> check.due("lost", x.harm(0, 0, 0), true));
+    }
+
+    private static void otherNonesChangeNothing() {
+        check.about("Other messages change nothing. (NONE)");
+        deliveredIsLost("a NONE, done", 2, x -> {
+            twoNones(x);
+            check.put(x, 0, 0, 1);
+            check.put(x, 0, 0, 2);
+            check.due("state", x.state(0), 2);
+        });
+        deliveredIsLost("a NONE, failed", 2, x -> {
+            twoNones(x);
+            check.due("NONE", x.deliver(1), 2);
+            check.due("state", x.state(0), 3);
+        });
+        deliveredIsLost("a NONE from another store", 2, x -> {
+            twoNones(x);
+            check.due("fetch", x.fetch(0, 2, A), 1);
+        });
+        deliveredIsLost("a NONE of what is there", 2, x -> {
+            twoNones(x);
+            check.put(x, 0, 0, 1);
+        });
+        deliveredIsLost("a NONE of what is not under the root", 2, x -> {
+            twoNones(x);
+            check.due("fetch", x.fetch(0, 1, C), 1);
+        });
+    }
+
+    private static void otherGivesChangeNothing() {
+        check.about("Other messages change nothing. (GIVE)");
+        deliveredIsLost("a GIVE, done", 1, x -> {
+            oneGive(x);
+            check.put(x, 0, 0, 1);
+            check.due("collect", x.collect(0), 1);
+            check.due("state", x.state(0), 2);
+        });
+        deliveredIsLost("a GIVE, failed", 1, x -> {
+            oneGive(x);
+            check.due("fetch", x.fetch(0, 1, B), 1);
+            x.deliver(1);
+            x.deliver(1);
+            check.due("state", x.state(0), 3);
+        });
+        deliveredIsLost("a GIVE from another store", 1, x -> {
+            oneGive(x);
+            check.due("fetch", x.fetch(0, 2, A), 1);
+        });
+        deliveredIsLost("a GIVE of what is there", 1, x -> {
+            oneGive(x);
+            check.due("fetch", x.fetch(0, 1, check.put(x, 0, Check.tree(1, A, 1, B))), 2);
+            check.put(x, 0, 0, 1);
+        });
+        deliveredIsLost("a GIVE of what is not under the root", 1, x -> {
+            oneGive(x);
+            check.due("fetch", x.fetch(0, 1, B), 1);
+        });
+        deliveredIsLost("a GIVE of no block", 1, x -> {
+            oneGive(x);
+            check.due("harm", x.harm(0, 0, 4), true);
+            check.due("fetch", x.fetch(0, 1, Check.nameOf(4, 1)), 1);
+        });
+        deliveredIsLost("a GIVE that was harmed", 1, x -> {
+            oneGive(x);
+            check.due("harm", x.harm(0, 1, 128), true);
+        });
+    }
+
+    private static void wantsAloneChangeNoStore() {
+        check.about("When a WANT is delivered (its answer alone is new)");
+        // The answer comes last, so that it can be lost again.
+        Still still = Still.busy(check);
+        still.alike("a WANT whose answer is lost", x -> {
+            check.due("WANT", x.deliver(0), 0);
+            check.due("the answer is lost", x.harm(2, 0, 0), true);
+        }, x -> check.due("lost", x.harm(0, 0, 0), true));
     }
 }

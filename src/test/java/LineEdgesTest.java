@@ -82,6 +82,8 @@ public final class LineEdgesTest {
         check.due("the last one", x.message(23, 3), 12);
         check.due("the one before", x.message(22, 3), 11);
         check.due("state", x.state(0), 1);
+        Still full = new Still(check, y -> wants(y, 24), 1023);
+        full.alike("a WANT that is lost", y -> check.due("retry", y.retry(0), 1), y -> { });
     }
 
     private static void fetchSendsUpTo24() {
@@ -242,7 +244,7 @@ public final class LineEdgesTest {
 
     private static void loseWhateverTheByteIs() {
         check.about("harm: lost if x is 0 (any kind, any i)");
-        for (int i : new int[] {0, -1, 17, 18, Integer.MIN_VALUE, Integer.MAX_VALUE}) {
+        for (int i : new int[] {0, -1, 9, 10, Integer.MIN_VALUE, Integer.MAX_VALUE}) {
             for (int k = 0; k < 3; k++) {
                 BlockExchange x = new BlockExchange();
                 Still.makeBusy(check, x);
@@ -369,6 +371,12 @@ public final class LineEdgesTest {
         check.due("GIVE", x.deliver(0), 1);
         check.due("state", x.state(0), 2);
         check.hasBlock(x, 0, 0, 1, 2);
+        Still still = Still.busy(check);
+        still.alike("harm there and back", y -> {
+            check.due("harm", y.harm(1, 9, 77), true);
+            check.due("harm", y.harm(1, 9, 77 + 256), true);
+        }, y -> { });
+        still.alike("harm of no bits", y -> check.due("harm", y.harm(1, 0, 256), true), y -> { });
     }
 
     private static void damageOneCopy() {

@@ -10,6 +10,7 @@ public final class PinEdgesTest {
         eightPinsInEachStore();
         pinnedSoAlready();
         notPinnedSo();
+        onAndOffAgain();
         deepAndNotAreTwoPins();
         aPinTakenAwayMakesRoom();
         collectInNoStore();
@@ -138,6 +139,27 @@ public final class PinEdgesTest {
         check.due("deep again", x.pin(0, Still.TREE, true, false), false);
         check.due("plain", x.pin(0, Still.A, false, false), true);
         check.due("plain again", x.pin(0, Still.A, false, false), false);
+    }
+
+    private static void onAndOffAgain() {
+        check.about("Pins a block (on), deep or not, or takes that pin away.");
+        Still still = Still.busy(check);
+        for (boolean deep : new boolean[] {false, true}) {
+            still.alike("on and off", x -> {
+                check.due("on", x.pin(0, Still.B, deep, true), true);
+                check.due("off", x.pin(0, Still.B, deep, false), true);
+            }, x -> { });
+        }
+        still.alike("off and on", x -> {
+            check.due("off", x.pin(0, Still.TREE, true, false), true);
+            check.due("on", x.pin(0, Still.TREE, true, true), true);
+        }, x -> { });
+        still.alike("collect twice", x -> {
+            check.due("collect", x.collect(0), 1);
+            check.due("collect", x.collect(0), 0);
+        }, x -> check.due("collect", x.collect(0), 1));
+        still.alike("collect where all is kept", x -> check.due("collect", x.collect(1), 0), x -> { });
+        still.alike("collect where nothing is", x -> check.due("collect", x.collect(2), 0), x -> { });
     }
 
     private static void deepAndNotAreTwoPins() {

@@ -69,15 +69,21 @@ final class Still {
     }
 
     void refused(String call, Function<BlockExchange, Object> made, Object due) {
+        alike(call, x -> check.same(call, made.apply(x), due), x -> { });
+    }
+
+    /** Whichever of two ways an object goes on, all that can be seen of it then is the same. */
+    void alike(String what, Consumer<BlockExchange> one, Consumer<BlockExchange> other) {
         List<Function<BlockExchange, List<Object>>> probes = List.of(
                 this::bufferAndList, this::blocks, this::pins, this::kept, this::line, this::fetches, this::delivered);
         for (Function<BlockExchange, List<Object>> probe : probes) {
-            BlockExchange called = new BlockExchange();
-            way.accept(called);
-            check.same(call, made.apply(called), due);
-            BlockExchange left = new BlockExchange();
-            way.accept(left);
-            check.same("what is asked for after " + call, probe.apply(called), probe.apply(left));
+            BlockExchange first = new BlockExchange();
+            way.accept(first);
+            one.accept(first);
+            BlockExchange second = new BlockExchange();
+            way.accept(second);
+            other.accept(second);
+            check.same("what is asked for after " + what, probe.apply(first), probe.apply(second));
         }
     }
 

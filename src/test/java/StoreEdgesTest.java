@@ -90,6 +90,17 @@ public final class StoreEdgesTest {
         check.put(full, 1, 0, 100);
         check.due("blocks", full.blocks(1), 64);
         check.due("collect: one block for each name", full.collect(1), 64);
+        Still still = Still.busy(check, y -> y.clear());
+        still.alike("put of what is there", y -> check.put(y, 0, Check.tree(1, Still.A, 1, Still.B)), y -> { });
+        still.alike("add of what is there", y -> {
+            check.type(y, 1, 2);
+            check.due("add", y.add(0, 1, 2), Still.TREE);
+        }, y -> { });
+        still.alike("folder of what is there", y -> {
+            y.entry(5, Still.TREE);
+            y.entry(9, Still.A);
+            check.due("folder", y.folder(0), Still.FOLDER);
+        }, y -> { });
     }
 
     private static void putAtACollision() {
