@@ -535,7 +535,7 @@ public final class BlockExchange {
 
         private static boolean hasWholeLinks(Row row) {
             int links = linkCount(row);
-            if (links > MOST_LINKS || row.size() != 2 + links * stride(row)) {
+            if (links > MOST_LINKS || row.size() != 2 + links * stride(row.at(0))) {
                 return false;
             }
             for (int i = 0; i < links; i++) {
@@ -581,16 +581,16 @@ public final class BlockExchange {
             return block.at(0) == SHARD ? Integer.bitCount(block.at(1)) : block.at(1);
         }
 
-        /** How many bytes each link takes, with the size or title before it. */
-        private static int stride(Row block) {
-            if (block.at(0) == TREE) {
+        /** How many bytes each link of a form takes, with the size or title before it. */
+        private static int stride(int form) {
+            if (form == TREE) {
                 return 4;
             }
-            return block.at(0) == FOLDER ? 3 : 2;
+            return form == FOLDER ? 3 : 2;
         }
 
         static int linkAt(Row block, int i) {
-            int end = 2 + (i + 1) * stride(block);
+            int end = 2 + (i + 1) * stride(block.at(0));
             return block.pairAt(end - 2);
         }
 
